@@ -242,6 +242,11 @@ public final class PromisesTest {
         changesAre("5: made stays made", x, 9, 3, new int[] {2}, new int[] {}, new int[] {});
         changesAre("5: threads", x, 10, 6, new int[] {}, new int[] {}, new int[] {0});
         changesAre("5: boxes", x, 11, 2, new int[] {0, 1}, new int[] {}, new int[] {});
+        x.changes(BOX, 0, 1);
+        x.changes(BOX, 0, 2);
+        due("5: run", x.run(), 2);
+        changesAre("5: from the log's first", x, 0, 1, new int[] {0}, new int[] {}, new int[] {});
+        changesAre("5: from the log's first", x, 1, 2, new int[] {0, 1}, new int[] {}, new int[] {});
         int[][] odd = {{3, 0, 9}, {-1, 0, 9}, {MAIL, -1, 9}, {MAIL, 0, 0}, {MAIL, 0, 100}, {MAIL, 99, 0}};
         for (int[] one : odd) {
             x.changes(one[0], one[1], one[2]);
@@ -495,6 +500,15 @@ public final class PromisesTest {
             status("7: deep", x, k, want[k]);
         }
         due("7: four deep", x.box(4, 5), 4);
+        x = new MailCore();
+        for (int b = 0; b < 5; b++) {
+            putBox(x, b, b < 2 ? 1000 : -b);
+        }
+        x.change(BOX, -1, 0, 1, 4);
+        x.change(BOX, -1, 0, 1, 3);
+        x.run();
+        status("7: five deep", x, 5, -3);
+        status("7: four deep", x, 6, 0);
     }
 
     private static void changeIsAsTold() {
@@ -550,10 +564,14 @@ public final class PromisesTest {
         due("7: in both", x.mail(2, 8), 2);
         due("7: state", x.state(MAIL), 10);
         due("7: threads are as they were", x.state(THREAD), 3);
+        x.change(MAIL, -1, 0, 0, 0);
+        x.change(BOX, -1, 0, 0, 0);
+        x.change(BOX, -1, 0, 2, 0);
+        due("7: the least numbers", x.run(), 3);
         x.query(-1, 3, 9, 9);
         x.change(MAIL, 0, MAIN, 1, 19);
         due("7: of no ids nothing is done", x.run(), 2);
-        due("7: state", x.state(MAIL), 10);
+        due("7: state", x.state(MAIL), 11);
     }
 
     private static void changeFailsAsAWhole() {
@@ -609,6 +627,29 @@ public final class PromisesTest {
         putBox(x, 1, 1000);
         x.run();
         row("8: ids come not again", x, 0, MADE, 4);
+    }
+
+    private static void destroyFailsAsAWhole() {
+        MailCore x = twoBoxes();
+        for (int m = 0; m < 4; m++) {
+            putMail(x, m == 0 ? 1 : 0, m / 3, 1, 1000, 1000);
+        }
+        x.run();
+        x.query(-1, 3, 0, 99);
+        x.destroy(MAIL, -1, 2);
+        x.destroy(MAIL, 0, MAIN);
+        x.get(MAIL, 0, MAIN);
+        x.query(-1, 7, 0, 99);
+        due("8: run", x.run(), 4);
+        status("8: the third is not there", x, 2, -1);
+        row("8: the first are", x, 3, MAIN, 0, 1, 3);
+        due("8: the thread", x.thread(0, -1), 2);
+        due("8: the other thread", x.thread(1, -1), 1);
+        due("8: states", x.state(MAIL) * 10 + x.state(THREAD), 55);
+        due("8: entries", x.told(5), 12);
+        x.destroy(BOX, -1, 1);
+        x.run();
+        status("8: one mail is in it", x, 0, -3);
     }
 
     private static void destroyOneBehindTheOther() {
@@ -721,6 +762,14 @@ public final class PromisesTest {
         due("14: call", x.given(-1, 1, 0), -1);
         x.get(BOX, -1, 0);
         due("12: of the latest run, as calls are put", x.status(2), -2);
+        x.run();
+        due("12: of the latest run alone", x.status(1), -9);
+        due("13: of the latest run alone", x.many(1, 1), -1);
+        due("14: of the latest run alone", x.given(1, 1, 0), -1);
+        x.get(BOX, -1, -3);
+        x.run();
+        x.query(-1, 0, 0, 9);
+        due("12: nothing of an earlier call stays", x.run(), 1);
     }
 
     private static void states() {
@@ -958,6 +1007,7 @@ public final class PromisesTest {
         changeMails();
         changeFailsAsAWhole();
         destroy();
+        destroyFailsAsAWhole();
         destroyOneBehindTheOther();
         crash();
         runAndDrop();
