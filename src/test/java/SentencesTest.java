@@ -318,7 +318,21 @@ public final class SentencesTest {
         }
         due(c, c.status(number + 1), -9);
         same("a CALL that fails changes what is there", things(with), things(without));
+        same("a CALL that fails changes what is logged behind it", things(with.andThen(SentencesTest::putMore)),
+                things(without.andThen(SentencesTest::putMore)));
         same("a CALL that fails changes those ahead", outcomes(with, number), outcomes(without, number));
+    }
+
+    /** CALLS of which at least one is good and changes something, mostly. */
+    private static void putMore(Core c) {
+        for (int what = 0; what < 10; what++) {
+            c.draft(what, what == 0 ? 97 : what == 1 ? NO_ONE : what == 2 ? 6 : 0);
+        }
+        c.make(BOX, 0);
+        c.make(MAIL, 0);
+        c.change(BOX, -1, 0, 2, 8);
+        c.change(MAIL, -1, 0, 0, 8);
+        c.run();
     }
 
     private static void allFail(Consumer<Core> ahead, int want, ObjIntConsumer<Core> put, int... numbers) {
@@ -636,6 +650,11 @@ public final class SentencesTest {
         meet(true, 999, NO_ONE, NO_ONE, 0, 999, 999);
         meet(false, 999, NO_ONE, NO_ONE, 998, 998, 0);
         meet(true, 5, 5, 5, 5, 5, 5);
+        // SUBJECTS are no numbers of these.
+        meet(false, 5, NO_ONE, NO_ONE, 1, NO_ONE, NO_ONE);
+        meet(false, 1, NO_ONE, NO_ONE, 5, NO_ONE, NO_ONE);
+        meet(false, 5, 6, NO_ONE, 0, 1, 2);
+        meet(false, 0, 1, 2, 5, 6, NO_ONE);
         Consumer<Core> apart = boxes(1).andThen(c -> {
             putMail(c, 1, 10, NO_ONE, NO_ONE);
             putMail(c, 1, 20, NO_ONE, NO_ONE);
@@ -761,6 +780,15 @@ public final class SentencesTest {
         }
         allGood(four, (d, v) -> d.change(BOX, -1, 3, 1, v), 0, 1, 2);
         allFail(four, -3, (d, v) -> d.change(BOX, -1, 4, 1, v), 4, 5, 6);
+        allFail(boxes(1), -3, (d, v) -> d.change(BOX, -1, 0, 1, v), 0);
+        Consumer<Core> firstMoves = boxes(5).andThen(d -> {
+            for (int b = 2; b < 5; b++) {
+                d.change(BOX, -1, b, 1, b - 1);
+            }
+            d.run();
+        });
+        allFail(firstMoves, -3, (d, v) -> d.change(BOX, -1, 0, 1, v), 0, 4);
+        allGood(firstMoves, (d, v) -> d.change(BOX, -1, 0, 1, v), 1, 2, 3);
     }
 
     private static void boxesThatMayNotBeDestroyed() {
@@ -872,6 +900,21 @@ public final class SentencesTest {
         row(c, 2, GONE, 3, 2, 1);
         entries(c, 10, ids(1, 5, 1, 2), ids(1, 5, 2, 2), ids(1, 5, 3, 2), ids(1, 6, 1, 3), ids(1, 6, 2, 3), ids(1, 6, 3, 3),
                 ids(2, 5, 0, 2), ids(2, 5, 1, 3));
+        c = after(boxes(20));
+        due(c, c.told(5), 20);
+        for (int b = 0; b < 20; b++) {
+            due(c, c.entry(b, 0), 0);
+            due(c, c.entry(b, 1), b + 1);
+            due(c, c.entry(b, 2), b);
+            due(c, c.entry(b, 3), 1);
+        }
+        c = after(mails(50));
+        for (int i = 0; i < 60; i++) {
+            due(c, c.entry(i, 0), 1 + i % 2);
+            due(c, c.entry(i, 1), 21 + i / 2);
+            due(c, c.entry(i, 2), 20 + i / 2);
+            due(c, c.entry(i, 3), 1);
+        }
         c = after(boxes(3));
         c.changes(BOX, 0, 9);
         c.change(BOX, 0, MADE, 2, 4);
@@ -968,6 +1011,32 @@ public final class SentencesTest {
         refused(eleven.andThen(d -> d.get(BOX, -1, 0)), -4, d -> d.make(9, -9));
         refused(eleven.andThen(d -> d.get(BOX, -1, 0)), -4, d -> d.change(9, -9, -9, -9, -9));
         refused(eleven.andThen(d -> d.get(BOX, -1, 0)), -4, d -> d.destroy(9, -9, -9));
+    }
+
+    private static void numbersOfACallAreItsOwn() {
+        sentence("Terms 2", "numbered from 0 on as they are put, are done in order by run(), and are none then");
+        // CALLS of an earlier request, dropped or done, that name CALLS which are not good in the next one.
+        List<ObjIntConsumer<Core>> earlier = List.of((c, k) -> c.get(BOX, 0, MADE), (c, k) -> c.get(BOX, -1, -1),
+                (c, k) -> c.change(BOX, -1, -1, 1, -1), (c, k) -> c.change(BOX, 0, MADE, 1, -1), (c, k) -> c.make(MAIL, -1),
+                (c, k) -> c.destroy(BOX, -1, -1), (c, k) -> c.query(19, 0, 50, 0), (c, k) -> c.changes(MAIL, 77, 1), (c, k) -> {
+                    putBox(c, 70, -1);
+                    c.draft(1, NO_ONE);
+                });
+        for (ObjIntConsumer<Core> one : earlier) {
+            for (ToIntFunction<Core> another : oneOfEachCall()) {
+                for (Consumer<Core> end : List.<Consumer<Core>>of(Core::run, Core::drop)) {
+                    Core c = after(boxes(2));
+                    putBox(c, 60, NO_ONE);
+                    one.accept(c, 0);
+                    end.accept(c);
+                    c.draft(0, 61);
+                    c.get(3, -1, 0);
+                    due(c, another.applyAsInt(c), 1);
+                    due(c, c.run(), 1);
+                    statuses(c, -2, 0);
+                }
+            }
+        }
     }
 
     private static void failedCallsChangeNothing() {
@@ -1291,6 +1360,16 @@ public final class SentencesTest {
         rows(c, 0, ids(0, 1), ids(), ids(), ids());
         rows(c, 1, ids(0, 1), ids(), ids(), ids());
         rows(c, 2, ids(), ids(), ids(), ids());
+        c = after(mails(2));
+        c.filter(7, 1, 0);
+        c.filter(7, 0, 0);
+        for (int f = -1; f <= 1; f++) {
+            c.query(f, 3, 0, 9);
+        }
+        c.run();
+        row(c, 0, MAIN, 0, 1);
+        row(c, 1, MAIN, 1);
+        row(c, 2, MAIN, 0);
         fails(mails(2), -1, d -> d.query(0, 0, 0, 9));
         c = new Core();
         c.query(-1, 0, 0, 99);
@@ -1393,6 +1472,49 @@ public final class SentencesTest {
         changesAre(3, 1, 4, ids(), ids(), ids(1));
         changesAre(4, 1, 8, ids(2), ids(), ids());
         changesAre(6, 1, 8, ids(), ids(), ids());
+        sentence("Terms 2", "t is the greatest STATE for which these are m at most all together; MAIN: t alone.");
+        // KINDS come to like STATES, and a CALL leaves ENTRIES of two of them.
+        Consumer<Core> both = mails(2).andThen(d -> {
+            d.query(-1, 3, 0, 9);
+            d.destroy(MAIL, 0, MAIN);
+            d.run();
+        });
+        Consumer<Core> marked = mails(2).andThen(d -> {
+            d.query(-1, 3, 0, 9);
+            d.change(MAIL, 0, MAIN, 0, 1);
+            d.run();
+        });
+        for (int kind = MAIL; kind <= THREAD; kind++) {
+            int of = kind;
+            allFail(both, -6, (d, m) -> d.changes(of, 2, m), 1);
+            Core c = after(both);
+            c.changes(of, 2, 2);
+            c.changes(of, 1, 1);
+            c.changes(of, 0, 1);
+            due(c, c.run(), 3);
+            rows(c, 0, ids(3), ids(), ids(), ids(0, 1));
+            rows(c, 1, ids(3), ids(), ids(), ids(0));
+            rows(c, 2, ids(3), ids(), ids(), ids());
+        }
+        allFail(marked, -6, (d, m) -> d.changes(MAIL, 2, m), 1);
+        Core two = after(marked);
+        two.changes(MAIL, 2, 2);
+        two.changes(MAIL, 1, 1);
+        two.changes(THREAD, 0, 1);
+        due(two, two.run(), 3);
+        rows(two, 0, ids(3), ids(), ids(0, 1), ids());
+        rows(two, 1, ids(2), ids(1), ids(), ids());
+        rows(two, 2, ids(1), ids(0), ids(), ids());
+        // THE LOG is full, and the last ENTRY is of another one than those ahead of it.
+        Core full = after(boxes(2).andThen(orders(60)));
+        full.change(BOX, -1, 1, 2, 7);
+        full.changes(BOX, 3, 1);
+        full.changes(BOX, 3, 2);
+        full.changes(BOX, 62, 1);
+        due(full, full.run(), 4);
+        rows(full, 1, ids(62), ids(), ids(0), ids());
+        rows(full, 2, ids(63), ids(), ids(0, 1), ids());
+        rows(full, 3, ids(63), ids(), ids(1), ids());
         sentence("Terms 2", "With s the STATE as it is: t is s.");
         changesAre(8, 1, 8, ids(), ids(), ids());
         changesAre(8, 99, 8, ids(), ids(), ids());
@@ -1438,6 +1560,21 @@ public final class SentencesTest {
             c.change(BOX, 0, MADE, 2, 1);
             c.run();
         });
+        Core many = after(boxes(20));
+        many.changes(BOX, 0, 99);
+        many.changes(BOX, 19, 99);
+        many.changes(BOX, 20, 99);
+        many.changes(BOX, 0, 19);
+        many.changes(BOX, 0, 20);
+        due(many, many.run(), 5);
+        due(many, many.many(0, MADE), 20);
+        due(many, many.given(0, MAIN, 0), 20);
+        rows(many, 1, ids(20), ids(19), ids(), ids());
+        rows(many, 2, ids(20), ids(), ids(), ids());
+        due(many, many.given(3, MAIN, 0), 19);
+        due(many, many.many(3, MADE), 19);
+        due(many, many.given(4, MAIN, 0), 20);
+        due(many, many.given(4, MADE, 19), 19);
         allFail(three, -6, (c, m) -> c.changes(BOX, 3, m), 1, 2);
         allGood(three, (c, m) -> c.changes(BOX, 3, m), 3, 4);
         allGood(three, (c, m) -> c.changes(BOX, 2, m), 1, 2);
@@ -2312,6 +2449,7 @@ public final class SentencesTest {
         entriesByKindsThenByIds();
         sixtyEntries();
         twelveCalls();
+        numbersOfACallAreItsOwn();
         failedCallsChangeNothing();
         statusIsTheFirstThatFits();
         callsThatAreNamed();
