@@ -983,7 +983,7 @@ public final class MailCore {
         }
 
         private int tellChanges(Call call, int newest, Outcome out) {
-            if (call.since > newest || lost[call.kind] > call.since) {
+            if (!isKind(call.kind) || call.since > newest || lost[call.kind] > call.since) {
                 return NOT_TELLABLE;
             }
             int last = call.since;

@@ -1235,6 +1235,13 @@ public final class SentencesTest {
             }
             due(c, c.state(BOX) * 10 + c.state(MAIL), 22);
         }
+        // Where no IDS are told, the ONE ID beside them is still wanted; whether there is such a BOX is not asked.
+        List<ObjIntConsumer<Core>> beside = List.of((c, v) -> c.change(BOX, 0, MAIN, 1, v),
+                (c, v) -> c.change(MAIL, 0, MAIN, 1, v), (c, v) -> c.change(MAIL, 0, MAIN, 2, v));
+        for (ObjIntConsumer<Core> put : beside) {
+            allFail(way, -5, put, -1, -2, -12, -13, LEAST);
+            allGood(way, put, 0, 1, 2, 19, 20, NO_ONE, MOST);
+        }
     }
 
     private static void oneId() {
@@ -1722,6 +1729,25 @@ public final class SentencesTest {
         statuses(c, 0, 0, 0, -3, 0);
         row(c, 2, CHANGED, 2, 3);
         due(c, c.box(1, 4), 2);
+        // BOX 4 is below 3, and 3 below 2: with 2 below 1, which is 2 deep, 4 is too deep, but not if 3 went ahead.
+        Consumer<Core> deep = chain(2).andThen(d -> {
+            putBox(d, 12, NO_ONE);
+            putBox(d, 13, 2);
+            putBox(d, 14, 3);
+            d.run();
+            for (int m = 0; m < 4; m++) {
+                putMail(d, 0, m);
+            }
+            d.run();
+            d.query(-1, 3, 2, 2);
+            d.query(-1, 7, 0, 2);
+        });
+        fails(deep, -3, d -> d.change(BOX, 0, MAIN, 1, 1));
+        c = after(deep);
+        c.change(BOX, 1, MAIN, 1, 1);
+        due(c, c.run(), 3);
+        rows(c, 2, ids(), ids(), ids(3, 2), ids());
+        due(c, c.box(2, 5) * 100 + c.box(3, 5) * 10 + c.box(4, 5), 334);
     }
 
     private static void changesOfMails() {
